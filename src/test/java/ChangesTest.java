@@ -7,6 +7,7 @@ public final class ChangesTest {
         promise38WhatIsNoChange();
         promise39Save();
         promise40Restore();
+        promise40RestoreOfWhoWasUndone();
         Expect.end();
     }
 
@@ -196,5 +197,27 @@ public final class ChangesTest {
         maze.summer();
         Expect.due("the snapshot is kept", maze.restore(), 1);
         Expect.due("all as saved again", told(maze), before);
+    }
+
+    /** Others come in the places of those who were undone, and go with the snapshot. */
+    private static void promise40RestoreOfWhoWasUndone() {
+        MazeBonds maze = new MazeBonds();
+        maze.gardener(7);
+        maze.visitor(8);
+        String saved = told(maze);
+        maze.save();
+        maze.undo();
+        maze.undo();
+        maze.hedge(0, 1, 5);
+        maze.hedge(4, 8, 5);
+        maze.hedge(5, 9, 5);
+        maze.hedge(6, 10, 5);
+        maze.hedge(6, 7, 5);
+        maze.hedge(1, 2, 4);
+        maze.gardener(50);
+        Expect.commands(maze, "v60;b0>0*1;w0s;r0+9;t0:0-1;m4");
+        Expect.due("a longer way for who came instead", maze.visitorOf(0, 3), 8);
+        Expect.due("restore", maze.restore(), 1);
+        Expect.due("those who were saved", told(maze), saved);
     }
 }

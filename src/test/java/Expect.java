@@ -6,6 +6,8 @@ final class Expect {
         void run();
     }
 
+    private static final int MOST_REPORTS = 40;
+
     private static int wrong = 0;
     private static int checked = 0;
 
@@ -100,6 +102,9 @@ final class Expect {
 
     private static void report(String what, String got, String want) {
         wrong++;
+        if (wrong > MOST_REPORTS) {
+            return;
+        }
         System.out.println(what + " answered " + got + ", due is " + want);
     }
 

@@ -200,7 +200,7 @@ public final class ModelTest {
     private void askWays(int one, int other) {
         int to = cell();
         compare("hours", () -> maze.hours(one, to), () -> plain.hours(one, to));
-        compare("hoursAgain", () -> maze.hoursAgain(one, to), () -> plain.hours(one, to));
+        compare("hoursAgain", () -> maze.hoursAgain(to, one), () -> plain.hours(to, one));
         compare("next", () -> maze.next(one), () -> plain.next(one));
         compare("reached", () -> maze.reached(one), () -> plain.reached(one));
         compare("trims", () -> maze.trims(one), () -> plain.trims(one));

@@ -20,6 +20,8 @@ public final class WaysTest {
 
     private static void hoursDue(MazeBonds maze, int from, int to, int want) {
         Expect.due("hours " + from + " " + to, maze.hours(from, to), want);
+        // Another search between the two, lest the second should live on what the first has left.
+        maze.trimsAgain(from);
         Expect.due("hoursAgain " + from + " " + to, maze.hoursAgain(from, to), want);
     }
 
