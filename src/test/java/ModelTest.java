@@ -27,14 +27,37 @@ public final class ModelTest {
         maze = new MazeBonds();
         plain = new PlainMaze();
         waiting = "";
+        calls = 0;
+        if (run % 8 > 0) {
+            open(run % 3);
+        }
         int quiet = run % 4;
-        for (calls = 0; calls < CALLS; calls++) {
+        for (; calls < CALLS; calls++) {
             if (!waiting.isEmpty()) {
                 appendOne();
             } else if (below(4) < quiet) {
                 ask();
             } else {
                 act();
+            }
+        }
+    }
+
+    /** Begins with people, bonds and hedges, the more of them the denser, lest most calls be refused. */
+    private void open(int density) {
+        change('g', below(20));
+        change('g', below(20));
+        for (int visitor = 0; visitor < 3; visitor++) {
+            change('v', below(20));
+            change('b', below(2), visitor, 1 + below(5));
+            change('r', visitor, 1 + below(9));
+        }
+        for (int cell = 0; cell < 16; cell++) {
+            if (below(3) < density) {
+                change('h', cell, cell + 1, 3 + below(5));
+            }
+            if (below(3) < density) {
+                change('h', cell, cell + 4, 3 + below(5));
             }
         }
     }
@@ -79,7 +102,7 @@ public final class ModelTest {
     private void act() {
         int one = cell();
         int other = beside(one);
-        switch (below(24)) {
+        switch (below(22)) {
             case 0: case 1: change('h', one, other, leafCount()); break;
             case 2: if (below(4) == 0) { change('s'); } break;
             case 3: change('t', gardener(), one, other); break;
