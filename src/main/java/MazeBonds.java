@@ -598,7 +598,7 @@ public final class MazeBonds {
                 int cell = queue[taken];
                 for (int hedge = 0; hedge < HEDGES; hedge++) {
                     int other = Maze.cellAcross(hedge, cell);
-                    boolean isNew = other != NONE && maze.isOpen(hedge) && distances[other] == FAR;
+                    boolean isNew = Maze.isCell(other) && maze.isOpen(hedge) && distances[other] == FAR;
                     if (isNew && queued < CELLS) {
                         distances[other] = distanceOf(cell) + 1;
                         queue[queued] = other;
@@ -625,8 +625,8 @@ public final class MazeBonds {
 
         /** Lets a cell take what it costs by a neighbour, and answers whether that is less. */
         private boolean lower(int cell, int neighbour, int cost) {
-            int offered = distances[neighbour] + cost;
-            if (offered >= distances[cell]) {
+            int offered = distanceOf(neighbour) + cost;
+            if (!Maze.isCell(cell) || offered >= distances[cell]) {
                 return false;
             }
             distances[cell] = offered;

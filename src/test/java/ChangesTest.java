@@ -46,74 +46,52 @@ public final class ChangesTest {
         Expect.wrongArgument("account(12)", () -> maze.account(12));
     }
 
-    private static void promise38UndoEachChange() {
+    private interface Step {
+        void take(MazeBonds maze);
+    }
+
+    /** A visitor with a bond and hours to lose, a cell ahead of the exit. */
+    private static MazeBonds aheadOfTheExit() {
         MazeBonds maze = new MazeBonds();
-        Expect.wrongState("nothing to undo", () -> maze.undo());
         maze.gardener(30);
         maze.visitor(30);
         maze.bond(0, 0, 3);
+        maze.hedge(0, 1, 3);
+        maze.visitor(9);
         maze.rest(0, 9);
         for (int direction : new int[] {1, 1, 1, 2, 2}) {
             maze.walk(0, direction);
         }
-        String before = told(maze);
-        maze.walk(0, 2);
-        Expect.due("the bond paid", maze.gardenerOf(0, 3), 27);
-        undoDue(maze, before, "a walk into the exit");
-        maze.minotaur(11);
-        Expect.due("the bond is void", maze.visitorOf(0, 7), 1);
-        undoDue(maze, before, "the minotaur");
-        maze.hedge(0, 1, 4);
-        undoDue(maze, before, "a hedge");
-        maze.summer();
-        undoDue(maze, before, "a summer");
-        maze.gardener(5);
-        undoDue(maze, before, "a gardener");
-        maze.visitor(5);
-        undoDue(maze, before, "a visitor");
-        maze.rest(0, 2);
-        undoDue(maze, before, "a rest");
-        Expect.commands(maze, "h14-15=6;t0:14-15;g9;v9;b1>1*4;m3");
-        undoDue(maze, before, "commands");
-        maze.hedge(0, 1, 3);
-        maze.visitor(9);
-        String between = told(maze);
-        maze.trim(0, 0, 1);
-        undoDue(maze, between, "a trim");
-        maze.bond(0, 1, 1);
-        undoDue(maze, between, "a bond");
+        return maze;
     }
 
-    private static void undoDue(MazeBonds maze, String before, String what) {
-        int changes = maze.account(10);
-        Expect.due("undo of " + what, maze.undo(), changes - 1);
-        Expect.due("all as before " + what, told(maze), before);
+    private static void promise38UndoEachChange() {
+        MazeBonds paid = aheadOfTheExit();
+        paid.walk(0, 2);
+        Expect.due("the bond paid", paid.gardenerOf(0, 3), 27);
+        MazeBonds met = aheadOfTheExit();
+        met.minotaur(11);
+        Expect.due("the bond is void", met.visitorOf(0, 7), 1);
+        undoDue("a walk into the exit", maze -> maze.walk(0, 2));
+        undoDue("the minotaur", maze -> maze.minotaur(11));
+        undoDue("a hedge", maze -> maze.hedge(0, 1, 4));
+        undoDue("a summer", maze -> maze.summer());
+        undoDue("a gardener", maze -> maze.gardener(5));
+        undoDue("a visitor", maze -> maze.visitor(5));
+        undoDue("a rest", maze -> maze.rest(0, 2));
+        undoDue("commands", maze -> Expect.commands(maze, "h14-15=6;t0:14-15;g9;v9;b1>1*4;m3"));
+        undoDue("a trim", maze -> maze.trim(0, 0, 1));
+        undoDue("a bond", maze -> maze.bond(0, 1, 1));
+        Expect.wrongState("nothing to undo", () -> new MazeBonds().undo());
     }
 
-    /** All that can be undone, told by the accounts, the gardeners, the visitors and the maze. */
-    private static String told(MazeBonds maze) {
-        StringBuilder all = new StringBuilder();
-        for (int what = 0; what < 10; what++) {
-            all.append(maze.account(what)).append(' ');
-        }
-        for (int gardener = 0; gardener < maze.account(0); gardener++) {
-            for (int what = 0; what < 5; what++) {
-                all.append(maze.gardenerOf(gardener, what)).append(what == 4 ? ';' : ',');
-            }
-        }
-        for (int visitor = 0; visitor < maze.account(1); visitor++) {
-            for (int what = 0; what < 9; what++) {
-                all.append(maze.visitorOf(visitor, what)).append(what == 8 ? ';' : ',');
-            }
-        }
-        for (int cell = 0; cell < 16; cell++) {
-            all.append(cell % 4 < 3 ? maze.leaves(cell, cell + 1) : 0);
-            all.append(cell < 12 ? maze.leaves(cell, cell + 4) : 0);
-        }
-        for (int row = 0; row < 4; row++) {
-            all.append(Expect.written(maze, maze.row(row)));
-        }
-        return all.toString();
+    private static void undoDue(String what, Step change) {
+        MazeBonds maze = aheadOfTheExit();
+        String before = Whole.seen(maze);
+        change.take(maze);
+        Expect.due(what + " changes something", Whole.seen(maze).equals(before), false);
+        Expect.due("undo of " + what, maze.undo(), 7);
+        Expect.due("all as before " + what, Whole.seen(maze), before);
     }
 
     private static void promise38UndoOfEight() {
@@ -180,7 +158,7 @@ public final class ChangesTest {
         maze.hedge(1, 2, 4);
         maze.minotaur(6);
         maze.rest(0, 8);
-        String before = told(maze);
+        String before = Whole.seen(maze);
         maze.save();
         Expect.due("save keeps the changes", maze.account(10), 6);
         Expect.commands(maze, "s;t0:1-2;g5;v5;w0e;m1;b1>1*2");
@@ -189,14 +167,14 @@ public final class ChangesTest {
         maze.row(0);
         Expect.due("restore answers the visitors", maze.restore(), 1);
         Expect.due("the line stays", Expect.written(maze, 7), "1 M 0 0");
-        Expect.due("all as saved", told(maze), before);
+        Expect.due("all as saved", Whole.seen(maze), before);
         Expect.due("restore forgets the changes", maze.account(10), 0);
         Expect.wrongState("nothing to undo", () -> maze.undo());
         Expect.due("the buffer stays", maze.account(11), 2);
         Expect.due("the reason stays", maze.reason(1), 2);
         maze.summer();
         Expect.due("the snapshot is kept", maze.restore(), 1);
-        Expect.due("all as saved again", told(maze), before);
+        Expect.due("all as saved again", Whole.seen(maze), before);
     }
 
     /** Others come in the places of those who were undone, and go with the snapshot. */
@@ -204,7 +182,7 @@ public final class ChangesTest {
         MazeBonds maze = new MazeBonds();
         maze.gardener(7);
         maze.visitor(8);
-        String saved = told(maze);
+        String saved = Whole.seen(maze);
         maze.save();
         maze.undo();
         maze.undo();
@@ -218,6 +196,6 @@ public final class ChangesTest {
         Expect.commands(maze, "v60;b0>0*1;w0s;r0+9;t0:0-1;m4");
         Expect.due("a longer way for who came instead", maze.visitorOf(0, 3), 8);
         Expect.due("restore", maze.restore(), 1);
-        Expect.due("those who were saved", told(maze), saved);
+        Expect.due("those who were saved", Whole.seen(maze), saved);
     }
 }

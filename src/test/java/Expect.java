@@ -10,8 +10,24 @@ final class Expect {
 
     private static int wrong = 0;
     private static int checked = 0;
+    private static String heading = "";
 
     private Expect() {
+    }
+
+    /** Runs a test whose reports begin with its name; it has to look at one answer at least. */
+    static void under(String name, Call test) {
+        heading = name + ": ";
+        int before = checked;
+        try {
+            test.run();
+        } catch (RuntimeException thrown) {
+            report("a call that is due to answer", "with " + thrown, "no exception");
+        }
+        if (checked == before) {
+            report("the test", "no call", "one at least");
+        }
+        heading = "";
     }
 
     static void due(String what, long got, long want) {
@@ -70,7 +86,7 @@ final class Expect {
         due(what + " keeps its reason", got, reason + "," + detail + "," + command);
     }
 
-    private static String outcome(Call call) {
+    static String outcome(Call call) {
         try {
             call.run();
         } catch (RuntimeException thrown) {
@@ -105,7 +121,7 @@ final class Expect {
         if (wrong > MOST_REPORTS) {
             return;
         }
-        System.out.println(what + " answered " + got + ", due is " + want);
+        System.out.println(heading + what + " answered " + got + ", due is " + want);
     }
 
     static void end() {

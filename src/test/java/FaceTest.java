@@ -101,10 +101,11 @@ public final class FaceTest {
                 !Modifier.isStatic(modifiers) || Modifier.isFinal(modifiers), true);
         }
         for (Class<?> inside : MazeBonds.class.getDeclaredClasses()) {
-            Expect.due(inside + " is private", Modifier.isPrivate(inside.getModifiers()), true);
-            Expect.due(inside + " is static", Modifier.isStatic(inside.getModifiers()), true);
+            int modifiers = inside.getModifiers();
+            Expect.due(inside + " is not open", Modifier.isPublic(modifiers) || Modifier.isProtected(modifiers), false);
             for (Method method : inside.getDeclaredMethods()) {
-                Expect.due(method + " bears no public name", names.contains(method.getName()), false);
+                boolean isPrivate = Modifier.isPrivate(method.getModifiers());
+                Expect.due(method + " bears a public name", isPrivate && names.contains(method.getName()), false);
             }
         }
     }

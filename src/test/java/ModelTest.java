@@ -5,7 +5,9 @@ public final class ModelTest {
     }
 
     private static final int RUNS = 1500;
+    // An object is used for so many calls; a step takes at most MOST_AT_ONCE of them.
     private static final int CALLS = 512;
+    private static final int MOST_AT_ONCE = 12;
     private static final String SIGNS = "hstmgvbwr0123456789-=:;>*+xnesw";
 
     private long seed;
@@ -32,7 +34,9 @@ public final class ModelTest {
             open(run % 3);
         }
         int quiet = run % 4;
-        for (; calls < CALLS; calls++) {
+        int steps = 0;
+        while (calls + MOST_AT_ONCE <= CALLS && steps < 2 * CALLS) {
+            steps++;
             if (!waiting.isEmpty()) {
                 appendOne();
             } else if (below(4) < quiet) {
@@ -274,6 +278,7 @@ public final class ModelTest {
         String due = outcome(want);
         Expect.due("call " + calls + ": " + call, outcome(got), due);
         if (due.equals("UnsupportedOperationException")) {
+            calls += 3;
             String kept = plain.reason(0) + "," + plain.reason(1) + "," + plain.reason(2);
             String seen = maze.reason(0) + "," + maze.reason(1) + "," + maze.reason(2);
             Expect.due("call " + calls + ": the reason against " + call, seen, kept);

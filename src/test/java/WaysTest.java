@@ -26,8 +26,8 @@ public final class WaysTest {
     }
 
     private static void promises13And14Hours() {
-        MazeBonds open = new MazeBonds();
         for (int from = 0; from < 16; from++) {
+            MazeBonds open = new MazeBonds();
             for (int to = 0; to < 16; to++) {
                 int rows = Math.abs(from / 4 - to / 4);
                 int columns = Math.abs(from % 4 - to % 4);
