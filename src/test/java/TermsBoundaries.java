@@ -497,6 +497,11 @@ final class TermsBoundaries extends Boundary {
             due("met while it lasts", earlier.visitorOf(0, 7), 1);
             earlier.minotaur(5);
             due("it stays void", earlier.visitorOf(0, 7), 1);
+            MazeBonds without = withVisitors(1);
+            due("met without a bond", without.minotaur(0), 1);
+            visitorDue(without, 0, 7, 0);
+            accountDue(without, 4, 0);
+            due("the line then", lineOf(without, 0), "0+0");
             MazeBonds later = bonded(50, 10, 1);
             walkOut(later, 0);
             due("who is out meets him no more", later.minotaur(15), 0);
